@@ -6,23 +6,13 @@ import java.util.function.IntSupplier;
 /** Long runs of drawn calls, each answer held against a model that follows the document word by word. */
 public final class StageClockModelTest {
     private static final int RUNS = 300;
-    private static final int CALLS = 512;
-    private static final int SHOWN = 20;
-
-    private static int wrong = 0;
-
-    private record Instruction(int t, int gets, int reads, int late, boolean load, int pause, boolean wrong) {
-        boolean fits() {
-            return t >= 1 && t <= 12 && gets >= 0 && gets <= 15 && late >= 0 && late <= 15 && pause >= 0 && pause <= 8;
-        }
-    }
 
     /** Keeps instructions only, and works out every time anew for every question. */
     private static final class Model {
         private final List<Instruction> all = new ArrayList<>();
 
         int add(Instruction one) {
-            if (!one.fits()) {
+            if (!fits(one)) {
                 throw new IllegalArgumentException();
             }
             if (all.size() == 200) {
@@ -33,7 +23,7 @@ public final class StageClockModelTest {
         }
 
         int change(int k, Instruction one) {
-            if (!one.fits()) {
+            if (!fits(one)) {
                 throw new IllegalArgumentException();
             }
             all.set(existing(k), one);
@@ -108,6 +98,14 @@ public final class StageClockModelTest {
             return empty;
         }
 
+        private boolean fits(Instruction o) {
+            return within(o.t(), 1, 12) && within(o.gets(), 0, 15) && within(o.late(), 0, 15) && within(o.pause(), 0, 8);
+        }
+
+        private boolean within(int value, int least, int most) {
+            return value >= least && value <= most;
+        }
+
         private int existing(int k) {
             if (k < 0 || k >= all.size()) {
                 throw new IndexOutOfBoundsException();
@@ -159,10 +157,7 @@ public final class StageClockModelTest {
         for (int run = 0; run < RUNS; run++) {
             play(run);
         }
-        System.out.println(wrong == 0 ? "all runs are as the model's" : wrong + " answers are not the model's");
-        if (wrong != 0) {
-            System.exit(1);
-        }
+        Check.end("all runs are as the model's");
     }
 
     private static void play(int run) {
@@ -171,7 +166,7 @@ public final class StageClockModelTest {
         Model model = new Model();
         // Some runs hardly ask before the object is full, so that its limit is met.
         int adds = run % 3 == 0 ? 85 : 35;
-        for (int call = 0; call < CALLS; call++) {
+        for (int call = 0; call < Run.MOST_CALLS; call++) {
             boolean add = draw.nextInt(100) < (model.all.size() < 200 ? adds : 10);
             step(run + "." + call, clock, model, draw, add ? 0 : 1 + draw.nextInt(8));
         }
@@ -183,12 +178,12 @@ public final class StageClockModelTest {
         switch (kind) {
             case 0: {
                 Instruction o = drawn(draw);
-                compare(at + " add " + o, () -> add(clock, o), () -> model.add(o));
+                compare(at + " add " + o, () -> o.addTo(clock), () -> model.add(o));
                 break;
             }
             case 1: {
                 Instruction o = drawn(draw);
-                compare(at + " change " + k + " " + o, () -> change(clock, k, o), () -> model.change(k, o));
+                compare(at + " change " + k + " " + o, () -> o.changeIn(clock, k), () -> model.change(k, o));
                 break;
             }
             case 2: {
@@ -225,15 +220,6 @@ public final class StageClockModelTest {
         }
     }
 
-    private static int add(StageClock clock, Instruction o) {
-        return clock.add(o.t(), o.gets(), o.reads(), o.late(), o.load(), o.pause(), o.wrong());
-    }
-
-    private static int change(StageClock clock, int k, Instruction o) {
-        clock.change(k, o.t(), o.gets(), o.reads(), o.late(), o.load(), o.pause(), o.wrong());
-        return 0;
-    }
-
     private static Instruction drawn(Random draw) {
         int t = draw.nextBoolean() ? 1 : near(draw, 1, 12);
         int reads = draw.nextBoolean() ? draw.nextInt() : draw.nextInt() & draw.nextInt() & draw.nextInt();
@@ -255,21 +241,6 @@ public final class StageClockModelTest {
     }
 
     private static void compare(String call, IntSupplier program, IntSupplier model) {
-        String got = answer(program);
-        String want = answer(model);
-        if (!got.equals(want)) {
-            wrong++;
-            if (wrong <= SHOWN) {
-                System.out.println("run " + call + " answered " + got + ", due is " + want);
-            }
-        }
-    }
-
-    private static String answer(IntSupplier call) {
-        try {
-            return String.valueOf(call.getAsInt());
-        } catch (RuntimeException e) {
-            return e.getClass().getName();
-        }
+        Check.due("run " + call, Check.answer(program), Check.answer(model));
     }
 }
