@@ -11,9 +11,11 @@ final class Run {
     }
 
     // They let times be worked out again, so that a part that was changed but not yet used shows.
+    private static final Instruction READER = Instruction.PLAIN.withReads(-1);
+    private static final Instruction LOAD = Instruction.PLAIN.withGets(1).asLoad().withWait(3);
     private static final Call[][] LATER = {
-        {c -> Instruction.PLAIN.withReads(-1).addTo(c), c -> Instruction.PLAIN.withGets(1).changeIn(c, 1)},
-        {c -> Instruction.PLAIN.withReads(-1).addTo(c), c -> Instruction.PLAIN.withGets(2).changeIn(c, 0)},
+        {READER::addTo, c -> READER.changeIn(c, 1)},
+        {READER::addTo, c -> LOAD.changeIn(c, 0)},
     };
 
     private final List<Call> calls;

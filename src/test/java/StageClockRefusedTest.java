@@ -109,7 +109,7 @@ public final class StageClockRefusedTest {
     private static void unfitChangeChangesNothing() {
         Check.about("A call that throws changes nothing: change with a part that does not fit");
         for (Instruction unfit : UNFIT) {
-            for (int k : new int[] {0, 1, 4}) {
+            for (int k : new int[] {0, 1, 2, 3, 4}) {
                 FIVE.refuses("change " + k + " " + unfit, Check.ARGUMENT, c -> unfit.changeIn(c, k));
             }
         }
