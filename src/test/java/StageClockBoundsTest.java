@@ -241,7 +241,8 @@ public final class StageClockBoundsTest {
         for (int late : new int[] {0, 1, 2, 14, 15}) {
             taken("late " + late, PLAIN.withLate(late), 1, 2, 3, 4, 5, 3, 4);
             // M waits for W of the one before it anyhow; X must not wait for what is needed LATE only.
-            StageClock clock = Run.of(PLAIN.withGets(late).asLoad().withWait(8)::addTo, PLAIN.withLate(late)::addTo).object();
+            Instruction load = PLAIN.withGets(late).asLoad().withWait(8);
+            StageClock clock = Run.of(load::addTo, PLAIN.withLate(late)::addTo).object();
             Check.times("late " + late + " of a load", clock, 1, 2, 3, 4, 13, 14, 4, 13);
         }
         refusedByAdd("late", PLAIN::withLate, and(FAR, -1, -2, 16, 17));
@@ -272,7 +273,7 @@ public final class StageClockBoundsTest {
     private static void inEachTillTheNextBegins() {
         Check.about("Terms, in each till the next begins");
         StageClock clock = Run.of(PLAIN.withT(3).withWait(2)::addTo, PLAIN::addTo).object();
-        // From its first cycle on each row tells which one is in the stage in cycles 0, 1, 2 ..
+        // A row for each stage: which one is in it in cycles 0, 1, 2 ..
         int[][] want = {
             {-1, 0, 1, -1, -1, -1, -1, -1, -1, -1, -1, -1},
             {-1, -1, 0, 1, 1, 1, -1, -1, -1, -1, -1, -1},

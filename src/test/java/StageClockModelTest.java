@@ -99,7 +99,7 @@ public final class StageClockModelTest {
         }
 
         private boolean fits(Instruction o) {
-            return within(o.t(), 1, 12) && within(o.gets(), 0, 15) && within(o.late(), 0, 15) && within(o.pause(), 0, 8);
+            return within(o.t(), 1, 12) && within(o.pause(), 0, 8) && within(o.gets(), 0, 15) && within(o.late(), 0, 15);
         }
 
         private boolean within(int value, int least, int most) {

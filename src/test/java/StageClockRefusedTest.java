@@ -1,4 +1,7 @@
-/** "Of several exceptions of a call the one named first in its heading is thrown; a call that throws changes nothing." */
+/**
+ * "Of several exceptions of a call the one named first in its heading is thrown; a call that throws
+ * changes nothing."
+ */
 public final class StageClockRefusedTest {
     private static final Instruction PLAIN = Instruction.PLAIN;
     private static final Instruction[] UNFIT = {
